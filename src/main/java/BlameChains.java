@@ -865,7 +865,8 @@ public final class BlameChains {
             return leftOut;
         }
 
-        /** Like its likes below, reads its command to the end also where it answers false, for one left out. */
+        // A command that is left out is read to its end too, so that the next one is found: these four read first.
+
         private boolean isAdded() {
             int factor = readSigned();
             int more = readSigned();

@@ -185,10 +185,24 @@ public final class PromiseTest {
         Checks.state("5: slot 0", () -> b.restore(0));
         Checks.state("5: slot 1", () -> b.restore(1));
         Checks.due("5: keeps the text", 62, b.clearText());
+        b.own(0, -10, 10, -15, 15);
+        b.net(2, 5);
+        b.call(2, 50);
+        b.call(2, 7);
+        Checks.due("5: caught", 2, b.part(2, 7));
         b.append('C');
         Checks.due("5: empty plan", 0, b.load());
-        Checks.due("5: no parts", 0, b.about(0));
-        Checks.due("5: no blame", 0, b.about(8));
+        for (int what = 0; what <= 8; what++) {
+            Checks.due("5: about " + what, 0, b.about(what));
+        }
+        Checks.due("5: no blame", NONE, b.blame(0, 0));
+        for (int p = 0; p < 3; p++) {
+            b.add(1, 0);
+            Checks.due("5: net of " + p, NONE, b.part(p, 4));
+            for (int what = 5; what <= 7; what++) {
+                Checks.due("5: counts of " + p + ", " + what, 0, b.part(p, what));
+            }
+        }
     }
 
     private static void promise5leftOut() {
@@ -594,6 +608,8 @@ public final class PromiseTest {
         Checks.due("17: call still there", 1, b.about(5));
         Checks.due("17: call", 3, b.undo());
         Checks.due("17: calls back", 0, b.about(3));
+        Checks.due("17: calls from outside back", 0, b.about(4));
+        Checks.due("17: what came out back", 0, b.about(6));
         Checks.due("17: blames back", NONE, b.blame(0, 0));
         Checks.due("17: part's calls back", 0, b.part(1, 5));
         Checks.due("17: own", 2, b.undo());
@@ -721,6 +737,7 @@ public final class PromiseTest {
         Checks.due("21: later", 7, b.firstBad(2, 0, 100));
         Checks.due("21: not among seven", NONE, b.firstBad(2, 0, 7));
         Checks.due("21: among eight", 7, b.firstBad(2, 0, 8));
+        Checks.due("21: one", 7, b.firstBad(2, 7, 1));
         b.own(0, -9999, 1198, -9999, 9999);
         Checks.due("21: up to 1198", NONE, b.firstBad(0, 999, 200));
         b.own(0, -9999, 1197, -9999, 9999);
@@ -741,6 +758,7 @@ public final class PromiseTest {
         Checks.argument("22: many 0", () -> b.mostBlamed(0, 0, 0));
         Checks.argument("22: many 201", () -> b.mostBlamed(0, 0, 201));
         Checks.due("22: none", NONE, b.mostBlamed(2, 0, 7));
+        Checks.due("22: one", 0, b.mostBlamed(2, 7, 1));
         Checks.due("22: part 0 for its give", 0, b.mostBlamed(2, 0, 9));
         Checks.due("22: as often", 0, b.mostBlamed(2, 7, 6));
         Checks.due("22: more often", 1, b.mostBlamed(2, 7, 7));
@@ -884,14 +902,20 @@ public final class PromiseTest {
         Checks.due("25: without parts", 0, new BlameChains().simulate(0, 1));
         b.call(2, 50);
         b.net(2, 3);
+        b.call(2, 50);
         for (long seed = -3; seed <= 3; seed++) {
             simulated(b, seed, 99);
             simulated(b, seed, 1);
         }
         simulated(b, Long.MAX_VALUE, 50);
         simulated(b, Long.MIN_VALUE, 50);
-        Checks.due("25: changes nothing", 3, b.about(3));
-        Checks.due("25: no blame", NONE, b.blame(1, 0));
+        Checks.due("25: changes nothing", 6, b.about(3));
+        Checks.due("25: no blame", NONE, b.blame(2, 0));
+        BlameChains one = new BlameChains();
+        one.add(1, 0);
+        one.own(0, -9999, 9999, -9999, -9999);
+        Checks.due("25: one part", 990001, one.simulate(1, 99));
+        Checks.due("25: one call", 10001, one.simulate(1, 1));
     }
 
     /** The calls of a simulation one by one: a second object of the same make counts what comes of them. */
