@@ -264,8 +264,14 @@ final class ActionSentences extends Sentences {
         }
         sentence("Promise 10", "Adds a part, which is not chained.");
         BlameChains other = Scenes.full();
-        other.net(9, 5);
+        for (int p = 9; p > 0; p--) {
+            other.net(p, 5);
+            other.call(p, 901);
+        }
+        due("the last one caught blame", 1, other.part(9, 7));
         other.link(NONE, 9, -1, 1, -1, 1);
+        other.own(9, -9999, 9999, 8, 8);
+        other.call(9, 1);
         Scenes.write(other, "C").load();
         for (int p = 0; p < 10; p++) {
             other.add(1, 0);

@@ -13,6 +13,7 @@ final class CallSentences extends Sentences {
         boundsInside();
         numberOfNet();
         steps();
+        overTheLink();
         untilSomeoneIsBlamed();
         nets();
         withoutNet();
@@ -182,6 +183,29 @@ final class CallSentences extends Sentences {
         blameDue("above the high bound", b, 0, kind, NONE, p, high + 1, 1, 0);
         due("all the way down", NONE, b.call(p, -999));
         due("all the way up", NONE, b.call(p, 999));
+    }
+
+    private static void overTheLink() {
+        sentence("CALLS", "if it is chained, it calls the part to which it is chained (over the link from the one to the other one).");
+        BlameChains b = Scenes.row(3);
+        b.link(2, 0, 0, 0, 0, 0);
+        b.link(NONE, 0, 1, 1, 1, 1);
+        b.link(NONE, 1, 2, 2, 2, 2);
+        due("other links to the parts below are not looked at", 5, b.call(2, 5));
+        due("that from the outside to part 0 is", NONE, b.call(0, 5));
+        due("and that to part 1", NONE, b.call(1, 5));
+        b.link(1, 0, 5, 5, 5, 5);
+        due("its own link allows it", 5, b.call(2, 5));
+        due("its own link alone does not", NONE, b.call(2, 6));
+        blameDue("part 1 is the caller", b, 0, 1, 1, 0, 6, 3, 0);
+        due("the outside is another caller", 1, b.call(0, 1));
+        b.chain(2, 0, 0);
+        due("over the other link", NONE, b.call(2, 5));
+        blameDue("part 2 is the caller", b, 0, 1, 2, 0, 5, 2, 0);
+        due("that allows 0", 0, b.call(2, 0));
+        b.chain(2, NONE, 0);
+        due("not chained, it calls none", 5, b.call(2, 5));
+        due("so no other call begins", 4, b.part(1, 5));
     }
 
     private static void untilSomeoneIsBlamed() {

@@ -28,6 +28,7 @@ final class ScriptSentences extends Sentences {
         wouldGive();
         onACopy();
         eachGroup();
+        partsThatAreGone();
         simulateArguments();
         withoutParts();
         drawnNumbers();
@@ -312,6 +313,32 @@ final class ScriptSentences extends Sentences {
                 }
                 runs("group", succeeds(scene, group) ? NONE : 0, b, 1, group);
             }
+        }
+    }
+
+    /** One part, where ten in a row were before: what they were must not be seen. */
+    private static BlameChains oneBehindTen() {
+        BlameChains b = Scenes.full();
+        Scenes.write(b, "Cn+01+00o0+05+05+05+05").load();
+        return b;
+    }
+
+    private static void partsThatAreGone() {
+        sentence("Promise 24", "commands with parts or contracts that do not exist fail,");
+        for (int p = 1; p <= 9; p++) {
+            BlameChains b = oneBehindTen();
+            for (int xyz = 4; xyz <= 999; xyz += 31) {
+                runs("call", 0, b, 1, 10000 + 1000 * p + xyz);
+                runs("call with blame", 0, b, 1, 20000 + 1000 * p + xyz);
+                runs("would give", 0, b, 1, 90000 + 1000 * p + xyz);
+            }
+            for (int q = 0; q <= 9; q++) {
+                runs("chain", 0, b, 1, 30000 + 1000 * p + 100 * q);
+                runs("drop of a link", 0, b, 1, 60000 + 1000 * p + 100 * q);
+            }
+            runs("net", 0, b, 1, 40000 + 1000 * p);
+            runs("drop", 0, b, 1, 50000 + 1000 * p);
+            runs("blamed", 0, b, 1, 70099 + 1000 * p);
         }
     }
 
