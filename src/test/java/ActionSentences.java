@@ -11,6 +11,7 @@ final class ActionSentences extends Sentences {
 
     static void all() {
         everythingButTextAndSlots();
+        countsAreState();
         eachCallIsAnAction();
         eachIsTakenBack();
         undoIsNone();
@@ -57,6 +58,46 @@ final class ActionSentences extends Sentences {
         due("the slot stays", 3, b.restore(1));
         due("with the part", 2, b.part(2, 1));
         due("the other slot too", 2, b.restore(0));
+    }
+
+    /** One call over a link with blame that is caught, and one from the outside with blame that is not. */
+    private static void countsAreState() {
+        sentence("ACTIONS AND UNDO", "the state, which consists of everything but the text and the save slots.");
+        BlameChains b = plain();
+        countsDue("as it is", b);
+        b.save(1);
+        b.call(1, 6);
+        b.call(0, 10);
+        due("calls", 5, b.about(3));
+        due("from outside", 3, b.about(4));
+        due("blame that arose", 3, b.about(5));
+        due("came to the outside", 1, b.about(6));
+        due("caught", 2, b.about(7));
+        due("the last blame's part", 0, b.blame(0, 2));
+        b.undo();
+        b.undo();
+        countsDue("behind two undos", b);
+        b.call(0, 10);
+        b.call(1, 6);
+        b.restore(1);
+        countsDue("behind restore", b);
+        b.call(0, 10);
+        due("the next call counts from there", 3, b.about(3));
+        due("and its blame", 2, b.about(5));
+    }
+
+    private static void countsDue(String when, BlameChains b) {
+        int[] abouts = {2, 1, 1, 2, 1, 1, 0, 1, 1};
+        for (int what = 0; what < abouts.length; what++) {
+            due(when + ", about " + what, abouts[what], b.about(what));
+        }
+        due(when + ", calls of part 0", 1, b.part(0, 5));
+        due(when + ", calls of part 1", 1, b.part(1, 5));
+        due(when + ", blame of part 1", 1, b.part(1, 6));
+        due(when + ", blame of part 0", 0, b.part(0, 6));
+        due(when + ", catches of part 1", 1, b.part(1, 7));
+        blameDue(when, b, 0, 1, 1, 0, 6, 1, 1);
+        due(when + ", a second blame", NONE, b.blame(1, 0));
     }
 
     private static void eachCallIsAnAction() {
